@@ -37,6 +37,7 @@ public final class BatchSavingsPromises {
         share();
         mean();
         count();
+        fullHouse();
         System.out.println(checks + " checks, " + wrong + " wrong");
         if (wrong != 0) {
             System.exit(1);
@@ -643,6 +644,45 @@ public final class BatchSavingsPromises {
         counts("20 an empty batch", x, 5, 1, 5, 0, 0);
         due("20 another what", () -> x.count(5), -1);
         due("20 what -1", () -> x.count(-1), -1);
+    }
+
+    /** Ten orders and ten batches: every row is used to its end. */
+    private static void fullHouse() {
+        BatchSavings x = orders(100, 100, 100, 100, 100, 100, 100, 100, 100, 100);
+        save(x, 8, 9, 10);
+        due("8 ten orders", () -> x.limit(1000, 100), 0);
+        due("9 ten orders by rule", () -> x.match(9), 10);
+        due("9 ten orders exactly", () -> x.match(10), 10);
+        partners("9 ten orders", x, -1, -1, -1, -1, -1, -1, -1, -1, 9, 8);
+        counts("20 ten orders", x, 10, 0, 10, 1, 10);
+        due("19 ten orders", () -> x.mean(), 1);
+        for (int order = 0; order < 9; order++) {
+            x.open(order);
+        }
+        x.leave(9);
+        due("12 the tenth batch", () -> x.open(9), 9);
+        counts("20 ten batches", x, 10, 10, 0, 0, 0);
+        for (int order = 4; order < 8; order++) {
+            x.leave(order);
+            x.weight(order, 100);
+        }
+        save(x, 4, 9, 30);
+        save(x, 4, 5, 40);
+        save(x, 5, 6, 50);
+        due("17 the last batch", () -> x.best(4), 9);
+        due("13 the last batch", () -> x.join(4, 9), 170);
+        due("13 its third", () -> x.join(5, 9), 230);
+        due("13 its fourth", () -> x.join(6, 9), 280);
+        refused("13 no fifth", () -> x.join(7, 9), ROOM);
+        due("17 full", () -> x.best(7), 0);
+        row("16 the last batch", x, 9, 9, 4, 5, 6);
+        due("16 its saved seconds", () -> x.told(9, 0, 2), 120);
+        due("16 its size", () -> x.told(9, 0, 3), 4);
+        due("16 its weight", () -> x.told(9, 0, 4), 300);
+        due("19 the last batch", () -> x.mean(), 12);
+        due("14 the last of it", () -> x.leave(6), 3);
+        due("9 two free", () -> x.match(2), 0);
+        due("10 two free", () -> bit(x.exact()), 1);
     }
 
     /** Orders of size 1 in zone 0. */
