@@ -1568,6 +1568,9 @@ public final class BatchSavingsEdges {
         due("it has left", 3, () -> x.count(3));
         x.limit(0, 1);
         due("limits come after it", 3, () -> x.count(3));
+        save(x, 4, 5, 0);
+        save(x, 6, 7, -1);
+        due("so do savings", 3, () -> x.count(3));
         x.match(10);
         due("none", 0, () -> x.count(3));
     }

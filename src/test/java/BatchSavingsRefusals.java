@@ -142,6 +142,7 @@ public final class BatchSavingsRefusals {
     /**
      * Ten orders, ten batches: batch 0 has four (0 .. 3), batch 9 one, the others none. 4 is barred for 0, the
      * saving of 5 with 3 is below 0, 7 is too heavy for batch 0, 8 in another zone; 6 would be fine but for the room.
+     * 4 and 5, 6 and 7 are pairs.
      */
     private static BatchSavings full() {
         BatchSavings x = new BatchSavings();
@@ -164,6 +165,7 @@ public final class BatchSavingsRefusals {
         x.joined(3, 5, 401);
         x.joined(4, 5, 390);
         x.joined(5, 6, 395);
+        x.joined(6, 7, 399);
         x.match(0);
         return x;
     }
@@ -189,7 +191,7 @@ public final class BatchSavingsRefusals {
         same("busy: batch 1", 0, busy.told(1, 0, 1));
         BatchSavings full = full();
         same("full: free", 5, full.count(2));
-        same("full: pairs", 1, full.count(3));
+        same("full: pairs", 2, full.count(3));
         same("full: by rule", false, full.exact());
         same("full: batch 0", 800, full.told(0, 0, 1));
         same("full: batch 9", 200, full.told(9, 0, 1));
