@@ -448,6 +448,9 @@ public final class BatchSavingsEdges {
         due("batch -1 is not there", MISSING, () -> x.told(-1, 0, 1));
         due("no order in batch 10", MISSING, () -> x.join(0, 10));
         due("how many", 10, () -> x.count(1));
+        save(x, 0, 9, 20);
+        due("the last one takes another", 180, () -> x.join(0, 9));
+        due("mean over all ten", 2, () -> x.mean());
     }
 
     private static void fourInARow() {
