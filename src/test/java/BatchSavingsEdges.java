@@ -108,6 +108,7 @@ public final class BatchSavingsEdges {
         test("11 an order that came after the latest matching", BatchSavingsEdges::withNewOrder);
         test("12 A free order and its partner, if it has one, in this order", BatchSavingsEdges::openPair);
         test("12 a free order alone, even above a limit", BatchSavingsEdges::openAlone);
+        test("12 its partner, even if the two may not be together now", BatchSavingsEdges::openPartedByRules);
         test("12 ten batches are no fewer when they are empty", BatchSavingsEdges::openTenEmpty);
         test("13 as its last one: the batch's way then", BatchSavingsEdges::joinWay);
         test("13 an empty batch", BatchSavingsEdges::joinEmpty);
@@ -141,6 +142,7 @@ public final class BatchSavingsEdges {
         test("20 0 orders, 1 batches, 2 free orders", BatchSavingsEdges::countThings);
         test("20 3 pairs by the latest matching", BatchSavingsEdges::countPairs);
         test("20 4 seconds that these save", BatchSavingsEdges::countSeconds);
+        test("20 4 by joined seconds told after the matching", BatchSavingsEdges::countSecondsTold);
         test("20 -1 for another what", BatchSavingsEdges::countAnother);
     }
 
@@ -1104,6 +1106,28 @@ public final class BatchSavingsEdges {
         row("another", x, 1, 1);
     }
 
+    private static void openPartedByRules() {
+        BatchSavings x = new BatchSavings();
+        x.order(100, 60, 0);
+        x.order(100, 40, 1);
+        x.near(0, 1, true);
+        save(x, 0, 1, 10);
+        x.match(10);
+        x.weight(0, 1000);
+        x.weight(1, 1000);
+        x.rule(0, 1, true);
+        x.near(0, 1, false);
+        x.limit(0, 1);
+        save(x, 0, 1, -10);
+        partners(x, 1, 0);
+        due("the pair", 0, () -> x.open(1));
+        row("the pair", x, 0, 1, 0);
+        due("its way", 210, () -> x.told(0, 0, 1));
+        x.leave(0);
+        due("it may not come back", STATE, () -> x.join(0, 0));
+        due("but be a batch alone", 1, () -> x.open(0));
+    }
+
     private static void openTenEmpty() {
         BatchSavings x = orders(100, 100);
         save(x, 0, 1, 10);
@@ -1589,6 +1613,23 @@ public final class BatchSavingsEdges {
         due("a batch is no pair", 20, () -> x.count(4));
         x.open(2);
         due("none", 0, () -> x.count(4));
+    }
+
+    private static void countSecondsTold() {
+        BatchSavings x = orders(100, 100, 100, 100);
+        save(x, 0, 1, 30);
+        save(x, 2, 3, 20);
+        x.match(10);
+        save(x, 0, 1, 31);
+        due("one more", 51, () -> x.count(4));
+        save(x, 2, 3, 0);
+        due("0 of one pair", 31, () -> x.count(4));
+        save(x, 2, 3, -40);
+        due("below 0 in all", -9, () -> x.count(4));
+        due("both are pairs still", 2, () -> x.count(3));
+        save(x, 0, 2, 90);
+        due("orders that are no pair", -9, () -> x.count(4));
+        due("and the mean by the same", -2, () -> x.mean());
     }
 
     private static void countAnother() {

@@ -53,14 +53,38 @@ public final class BatchSavingsFace {
                 found.add("field " + each.getName());
             }
         }
+        for (Class<?> each : type.getDeclaredClasses()) {
+            boolean hidden = !Modifier.isPublic(each.getModifiers()) && !Modifier.isProtected(each.getModifiers());
+            if (!hidden || !Modifier.isStatic(each.getModifiers())) {
+                found.add("class " + each.getSimpleName());
+            }
+        }
         Set<String> want = new TreeSet<>(Arrays.asList(FACE));
         boolean isFinal = Modifier.isFinal(type.getModifiers()) && Modifier.isPublic(type.getModifiers());
-        if (!found.equals(want) || !isFinal) {
+        boolean isPlain = type.getSuperclass() == Object.class && type.getInterfaces().length == 0;
+        Set<String> shared = sharedNames(type);
+        if (!found.equals(want) || !isFinal || !isPlain || !shared.isEmpty()) {
             System.out.println("found: " + found);
             System.out.println("due: " + want);
+            System.out.println("private methods with a public one's name: " + shared);
             System.exit(1);
         }
         System.out.println("the face is as due");
+    }
+
+    private static Set<String> sharedNames(Class<?> type) {
+        Set<String> open = new TreeSet<>();
+        Set<String> hidden = new TreeSet<>();
+        for (Method each : type.getDeclaredMethods()) {
+            (Modifier.isPublic(each.getModifiers()) ? open : hidden).add(each.getName());
+        }
+        for (Class<?> inside : type.getDeclaredClasses()) {
+            for (Method each : inside.getDeclaredMethods()) {
+                hidden.add(each.getName());
+            }
+        }
+        hidden.retainAll(open);
+        return hidden;
     }
 
     private static String parameters(Class<?>[] types) {
